@@ -280,13 +280,12 @@ public final class TurnBids {
 
     /* None of these keeps the state ahead of it: the run that they are part of is the one change. */
     private int doMove(char sign, int number) {
-        switch (sign) {
-            case '+': return table.underWay ? NOT_POSSIBLE : table.start();
-            case '-': return table.underWay ? table.dropOut() : NOT_POSSIBLE;
-            case '*': return table.underWay ? table.actByLimit() : NOT_POSSIBLE;
-            case '!': return table.playRound();
-            default: return table.mayBid(number) ? table.takeBid(number) : NOT_POSSIBLE;
-        }
+        if (sign == '+') return table.underWay ? NOT_POSSIBLE : table.start();
+        if (sign == '!') return table.playRound();
+        if (!table.underWay) return NOT_POSSIBLE;
+        if (sign == '-') return table.dropOut();
+        if (sign == '*') return table.actByLimit();
+        return table.mayBid(number) ? table.takeBid(number) : NOT_POSSIBLE;
     }
 
     /** Everything that undo, save and restore are about. All rows of five are by the player's number. */

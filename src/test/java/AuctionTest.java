@@ -129,8 +129,8 @@ public final class AuctionTest {
     }
 
     private static void sharesOfADrop() {
-        int[] shares = {0, 1, 14, 15, 50, 99, 100};
-        int[] paid = {0, 0, 0, 1, 3, 6, 7};
+        int[] shares = {0, 1, 14, 15, 50, 57, 99, 100};
+        int[] paid = {0, 0, 0, 1, 3, 3, 6, 7};
         for (int i = 0; i < shares.length; i++) {
             TurnBids x = new TurnBids();
             x.set(TurnBids.DROP, shares[i]);
@@ -144,8 +144,8 @@ public final class AuctionTest {
     }
 
     private static void sharesOfTheLast() {
-        int[] shares = {0, 1, 14, 15, 50, 99, 100};
-        int[] paid = {0, 1, 1, 2, 4, 7, 7};
+        int[] shares = {0, 1, 14, 15, 43, 50, 99, 100};
+        int[] paid = {0, 1, 1, 2, 4, 4, 7, 7};
         for (int i = 0; i < shares.length; i++) {
             TurnBids x = new TurnBids();
             x.set(TurnBids.HALF, shares[i]);

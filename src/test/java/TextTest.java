@@ -101,6 +101,11 @@ public final class TextTest {
         due.is("run(), over the ends of auctions", y.run(), 14);
         due.is("count(9)", y.count(9), 3);
         due.is("count(6)", y.count(6), 20);
+        TurnBids w = new TurnBids();
+        w.begin();
+        Seen.put(w, "5,10,-,11");
+        due.is("run() of what begins with a number", w.run(), 4);
+        due.all("bids", Seen.players(w, 3), 5, 10, NONE, 11, NONE);
         TurnBids z = new TurnBids();
         Seen.put(z, "!,!,!,!,!,!,!,!,!,!,!,!,!,!,!,!,!,!,!,!,!,!,!,!,!,!,!,!,!,!");
         due.is("run() of thirty", z.run(), 30);

@@ -140,7 +140,7 @@ public final class WhatIfTest {
         for (int moves = 0; moves < 14; moves++) {
             TurnBids y = midway(moves);
             TurnBids then = midway(moves);
-            for (int rounds = 1; rounds <= 40; rounds++) {
+            for (int rounds = 1; rounds <= 25; rounds++) {
                 then.finish();
                 int richest = then.at(0);
                 for (int place = 1; place < 5; place++) {

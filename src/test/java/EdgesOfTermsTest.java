@@ -519,5 +519,8 @@ public final class EdgesOfTermsTest {
         TurnBids z = new TurnBids();
         for (int call = 1; call <= 511; call++) z.finish();
         due.is("call 512, count(9)", z.count(9), 511);
+        TurnBids w = new TurnBids();
+        for (int call = 1; call <= 511; call++) w.count(10);
+        due.is("call 512, count(10)", w.count(10), 100);
     }
 }

@@ -13,6 +13,7 @@ import java.util.regex.Pattern;
 /** The public face, and what of ../shared/LANGUAGE.md can be seen from outside or in the text. */
 public final class RulesTest {
     private static final Due due = new Due("RulesTest");
+    private static final Path SOURCE = Path.of("src/main/java/TurnBids.java");
     private static final Set<String> FACE = Set.of(
         "set(int,int)", "coins(int,int)", "limit(int,int)", "prize(int,int)", "begin()", "bid(int)", "drop()", "act()",
         "finish()", "run()", "player(int,int)", "at(int)", "count(int)", "prizeOf(int)", "ifFinished(int,int)",
@@ -22,6 +23,13 @@ public final class RulesTest {
         "NO_SUCH", "BAD_VALUE", "BAD_TEXT", "TOO_MANY", "NOT_POSSIBLE", "NONE", "STEP", "FIRST", "HALF", "DROP");
     private static final String FORBIDDEN = "\\b(throw|throws|try|catch|finally|synchronized|assert|package|native|volatile|protected"
         + "|System\\.(?!arraycopy)|Thread|Object|import (?!java\\.util\\.(ArrayList|List|Iterator|Arrays);))\\b|->|::|Exact\\(|\\.stream";
+    /* The interface as the document writes it: what stands ahead of the calls, and their order. */
+    private static final String[] INTERFACE = {
+        "// ---- changes", "set", "coins", "limit", "prize", "begin", "bid", "drop", "act", "finish", "run",
+        "// ---- what there is; nothing changes", "player", "at", "count", "prizeOf",
+        "// ---- what if; nothing changes", "ifFinished", "bestLimit", "coinsBehind", "richest", "movesLeft",
+        "// ---- texts", "put", "wipe", "fault",
+        "// ---- undo, saving", "undo", "save", "restore"};
     /* What a run may make: below as many bytes there is room for neither too many objects nor too many fields. */
     private static final long ROOM = 7_300_000;
 
@@ -30,6 +38,7 @@ public final class RulesTest {
         fields();
         insideClasses();
         constants();
+        interfaceSaysWhatIsAhead();
         text();
         room();
         due.end();
@@ -92,8 +101,18 @@ public final class RulesTest {
         due.all("constants", got, -100001, -100002, -100003, -100004, -100005, -100006, 0, 1, 2, 3);
     }
 
+    private static void interfaceSaysWhatIsAhead() throws IOException {
+        String source = Files.readString(SOURCE);
+        int from = 0;
+        for (String part : INTERFACE) {
+            int at = source.indexOf(part.startsWith("//") ? part + "\n" : "public int " + part + "(", from);
+            due.is("in the text stands in its order: " + part, at >= 0 ? 1 : 0, 1);
+            from = Math.max(from, at);
+        }
+    }
+
     private static void text() throws IOException {
-        String source = Files.readString(Path.of("src/main/java/TurnBids.java"));
+        String source = Files.readString(SOURCE);
         for (char sign : source.toCharArray()) {
             if (sign > 126) due.is("a sign above 126 in the text", sign, 0);
         }

@@ -28,6 +28,8 @@ public final class EdgesOfTextsTest {
         runOfAnEmptyPad();
         runOfAFault();
         runOfOneMove();
+        runOfActsThatBid();
+        runOfAShorterText();
         runStopsAtEachError();
         runUpToTheFirstError();
         runOfAFullPad();
@@ -323,6 +325,33 @@ public final class EdgesOfTextsTest {
             due.is("run() of " + move, x.run(), 1);
             due.all("what there is", Seen.all(x), Seen.all(by));
         }
+    }
+
+    private static void runOfActsThatBid() {
+        due.sentence("Does the moves of the pad, one after the other");
+        TurnBids x = new TurnBids();
+        Seen.put(x, "+,*,*,-,*");
+        due.is("run()", x.run(), 5);
+        due.all("bids", Seen.players(x, 3), 1, 2, NONE, 3, NONE);
+        due.is("count(8)", x.count(8), 27);
+    }
+
+    private static void runOfAShorterText() {
+        due.sentence("empties the pad");
+        TurnBids x = new TurnBids();
+        Seen.put(x, "12,-,-,-");
+        x.wipe();
+        Seen.put(x, "+,7");
+        due.is("fault(), nothing is left of the text that was wiped", x.fault(), NONE);
+        due.is("run()", x.run(), 2);
+        due.is("count(8)", x.count(8), 31);
+        TurnBids y = new TurnBids();
+        Seen.put(y, "+,-,-,-,1");
+        y.run();
+        Seen.put(y, "12");
+        due.is("run(), nothing is left of the text that was run", y.run(), 1);
+        due.is("count(5)", y.count(5), 3);
+        due.is("count(6)", y.count(6), 12);
     }
 
     private static void runStopsAtEachError() {

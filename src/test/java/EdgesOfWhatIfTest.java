@@ -15,6 +15,7 @@ public final class EdgesOfWhatIfTest {
         bestLimitBeyond();
         bestLimitIsTheLeastOfSeveral();
         bestLimitAtTheEnds();
+        bestLimitBetweenTheEnds();
         bestLimitOfOneWhoHasDropped();
         bestLimitWithALoss();
         coinsBehindBeyond();
@@ -23,6 +24,7 @@ public final class EdgesOfWhatIfTest {
         coinsBehindAtTheEnds();
         richestBeyond();
         richestOfSeveral();
+        richestThenAndNotNow();
         richestBehindOneRoundAndAHundred();
         movesLeftFewestAndMost();
         movesLeftWithoutAnAuction();
@@ -132,6 +134,25 @@ public final class EdgesOfWhatIfTest {
         due.is("bestLimit(1, 1)", x.bestLimit(1, 1), 0);
     }
 
+    private static void bestLimitBetweenTheEnds() {
+        due.sentence("Finds the limit of a player with which finish() would bring it the most coins");
+        TurnBids x = new TurnBids();
+        x.set(TurnBids.DROP, 100);
+        x.coins(0, 90);
+        x.coins(4, 9999);
+        x.limit(4, 99);
+        x.prize(1, 60);
+        x.prize(0, 99);
+        due.is("bestLimit(0, 0), the second prize is cheap", x.bestLimit(0, 0), 11);
+        due.is("bestLimit(0, 1)", x.bestLimit(0, 1), 49);
+        TurnBids y = new TurnBids();
+        y.set(TurnBids.DROP, 100);
+        y.prize(0, 0);
+        y.prize(1, 0);
+        due.is("bestLimit(0, 0), each bid is lost", y.bestLimit(0, 0), 0);
+        due.is("bestLimit(0, 1)", y.bestLimit(0, 1), 0);
+    }
+
     private static void bestLimitOfOneWhoHasDropped() {
         due.sentence("of several the least");
         TurnBids x = Games.underWay();
@@ -224,6 +245,30 @@ public final class EdgesOfWhatIfTest {
             y.coins(pair[1], 23);
             due.is("richest(2), one coin more", y.richest(2), pair[1]);
         }
+    }
+
+    private static void richestThenAndNotNow() {
+        due.sentence("Finds the player who has the most coins behind some rounds");
+        for (int player = 0; player < 4; player++) {
+            TurnBids x = noOneBids();
+            x.set(TurnBids.HALF, 100);
+            x.coins(player, 25);
+            x.limit(player, 20);
+            x.set(TurnBids.FIRST, 5);
+            due.is("richest(1), the richest one pays 5 of 25 coins", x.richest(1), player);
+            x.set(TurnBids.FIRST, 6);
+            due.is("player(" + player + ", 0)", x.player(player, 0), 25);
+            due.is("richest(1), the richest one pays 6 of 25 coins", x.richest(1), 4);
+        }
+        TurnBids y = noOneBids();
+        y.coins(4, 25);
+        y.limit(4, 20);
+        due.is("richest(1), 4 is left ahead of its turn, and pays nothing", y.richest(1), 4);
+        y.set(TurnBids.HALF, 100);
+        y.limit(3, 2);
+        due.is("richest(1), 4 pays 2 of 25 coins", y.richest(1), 4);
+        y.set(TurnBids.STEP, 5);
+        due.is("richest(1), 4 pays 6 of 25 coins, and 3 has the place behind it", y.richest(1), 3);
     }
 
     /** Each round turns the order of all who have the same coins around. */
